@@ -15,6 +15,7 @@ public final class Cachefront {
   private static final int SECONDS_MOST = 600;
   private static final int GRACE_MOST = 60;
   private static final int ROOM_MOST = 600;
+  private static final int ENTRY_COST = 10;
   private static final int REQUESTS_MOST = 60;
   private static final int ROW_MOST = 60;
 
@@ -82,7 +83,8 @@ public final class Cachefront {
   private static final int BEHIND = 100000;
   private static final int RING = 65536;
 
-  private static final int STILL = Integer.MAX_VALUE;
+  /** A TICK after all others. */
+  private static final int STILL = 2147483647;
 
   private static final int FIRST_NUMBER = 1000;
   private static final int LAST_NUMBER = 1999;
@@ -596,7 +598,12 @@ public final class Cachefront {
   }
 
   public boolean isSound() {
-    return areAllTrue() && store.isSound() && areFetchesSound() && isRingSound();
+    for (int i = 0; i < requests.size(); i++) {
+      if (!isTrue(i)) {
+        return false;
+      }
+    }
+    return store.isOrderly() && areFetchesSound() && isRingSound();
   }
 
   public long digest() {
@@ -778,7 +785,7 @@ public final class Cachefront {
 
   /** IF_RANGE and IF_MATCH hold by strong TAGS alone. */
   private static boolean isSameStrong(int asked, int tag) {
-    return asked == tag && isStrong(tag);
+    return asked == tag && tag >= 0 && tag % 2 == 0;
   }
 
   private static char sign(int place, int path, int version, int variant, int capitals) {
@@ -796,7 +803,7 @@ public final class Cachefront {
     Request request = new Request(requests.size(), ask, now);
     requests.add(request);
     waits++;
-    start(look(request));
+    come(request);
     return request.number;
   }
 
@@ -806,9 +813,11 @@ public final class Cachefront {
       return PASSED;
     }
     Entry entry = store.select(ask.path, ask.lang, ask.coding);
-    int how = entry == null ? NONE : entry.readyFor(ask, now);
-    if (how != NONE) {
-      return how;
+    if (entry != null && entry.hasWanted(ask)) {
+      int how = entry.readyFor(ask, now);
+      if (how != NONE) {
+        return how;
+      }
     }
     if (ask.hasWish(WISH_ONLY_KEPT)) {
       return NOT_KEPT;
@@ -816,26 +825,35 @@ public final class Cachefront {
     return joinable(ask.path, ask.lang, ask.coding) == null ? FETCHED : WOULD_WAIT;
   }
 
-  /** What a REQUEST that comes brings about; the FETCH that begins by it, not yet sent, or null. */
-  private Fetch look(Request request) {
+  /** A REQUEST comes, or is looked at again; a FETCH without any ORIGIN ends as it begins. */
+  private void come(Request request) {
     Ask ask = request.ask;
     Entry entry = store.select(ask.path, ask.lang, ask.coding);
     int how = decide(ask);
-    request.waitsFor = null;
+    Fetch fetch = null;
     switch (how) {
       case PASSED:
-        return begin(PASS, ask.isConditional() ? ask : ask.plain(), request, null);
+        fetch = begin(PASS, ask.isConditional() ? ask : ask.plain(), request, null);
+        break;
       case NOT_KEPT:
         tell(request, FAULT_SILENT, NOT_KEPT, null, null);
-        return null;
+        break;
       case WOULD_WAIT:
         request.waitsFor = joinable(ask.path, ask.lang, ask.coding);
-        return null;
+        break;
       case FETCHED:
-        return beginFor(request, entry);
+        fetch = beginFor(request, entry);
+        break;
       default:
         tellKept(request, entry, how);
-        return how == STALE_WHILE ? beginBehind(ask, entry) : null;
+        fetch = how == STALE_WHILE ? beginBehind(ask, entry) : null;
+        break;
+    }
+    if (fetch != null) {
+      sendTry(fetch);
+      if (fetch.isOver() && fetch.request != null) {
+        tellFault(request, fetch);
+      }
     }
   }
 
@@ -880,17 +898,6 @@ public final class Cachefront {
     return fetch;
   }
 
-  /** Sends what has begun; without any ORIGIN it ends here, and nobody can wait for it yet. */
-  private void start(Fetch fetch) {
-    if (fetch == null) {
-      return;
-    }
-    sendTry(fetch);
-    if (fetch.isOver() && fetch.request != null) {
-      tellFault(fetch.request, fetch);
-    }
-  }
-
   private void sendTry(Fetch fetch) {
     Origin next = fetch.mayTry() ? firstOf(fetch.ask.path, fetch.tried, false) : null;
     if (next == null) {
@@ -914,6 +921,7 @@ public final class Cachefront {
         comeBack(fetch);
         if (fetch.isOver()) {
           finish(fetch);
+          goOn(fetch);
         }
       }
     }
@@ -956,20 +964,18 @@ public final class Cachefront {
   }
 
   private void finish(Fetch fetch) {
-    Request request = fetch.request;
     if (fetch.isFault()) {
-      if (request != null) {
-        tellFault(request, fetch);
+      if (fetch.request != null) {
+        tellFault(fetch.request, fetch);
       }
     } else if (fetch.kind == PASS) {
       finishPass(fetch);
     } else {
-      Entry entry = takeIn(fetch);
-      if (request != null) {
-        tellFetched(request, fetch, entry);
+      Entry entry = fetch.status == PARTIAL ? takeInPart(fetch) : takeIn(fetch);
+      if (fetch.request != null) {
+        tellFetched(fetch.request, fetch, entry);
       }
     }
-    goOn(fetch);
   }
 
   /** A REQUEST that is looked at again can not come to wait for this FETCH, as it is over. */
@@ -981,7 +987,7 @@ public final class Cachefront {
         if (fetch.isFault()) {
           tellFault(request, fetch);
         } else {
-          start(look(request));
+          come(request);
         }
       }
     }
@@ -997,13 +1003,8 @@ public final class Cachefront {
       }
       return null;
     }
-    if (fetch.status == PARTIAL) {
-      return takeInPart(fetch, answer);
-    }
-    Entry entry = answer;
-    if (fetch.status == NOT_MODIFIED && fetch.base != null) {
-      entry = fetch.base.renewed(answer);
-    }
+    boolean isRenewed = fetch.status == NOT_MODIFIED && fetch.base != null;
+    Entry entry = isRenewed ? fetch.base.renewed(answer) : answer;
     if (entry.mayBeKept()) {
       store.keep(entry);
     } else {
@@ -1012,8 +1013,12 @@ public final class Cachefront {
     return entry;
   }
 
-  private Entry takeInPart(Fetch fetch, Entry answer) {
+  private Entry takeInPart(Fetch fetch) {
+    Entry answer = fetch.answer;
     Ask ask = fetch.ask;
+    if (answer == null) {
+      return null;
+    }
     Entry entry = answer;
     if (ask.ifRange != NONE && fetch.base != null && fetch.base.canJoin(entry)) {
       entry = fetch.base.joined(entry);
@@ -1033,21 +1038,22 @@ public final class Cachefront {
   private void tellKept(Request request, Entry entry, int how) {
     if (entry != null) {
       store.use(entry);
-      tell(request, request.ask.statusBy(entry), how, entry, null);
+      tell(request, request.ask.statusFor(entry.tag, entry.last, entry.total), how, entry, null);
     }
   }
 
   private void tellFetched(Request request, Fetch fetch, Entry entry) {
     int how = fetch.status == NOT_MODIFIED ? VALIDATED : FETCHED;
-    int status = entry == null ? fetch.status : request.ask.statusBy(entry);
+    int status = entry == null ? fetch.status : request.ask.statusFor(entry.tag, entry.last, entry.total);
     tell(request, status, how, entry, fetch.origin);
   }
 
   private void tellFault(Request request, Fetch fetch) {
     Ask ask = request.ask;
     Entry entry = fetch.kind == PASS ? null : store.select(ask.path, ask.lang, ask.coding);
-    if (entry != null && entry.helpsOut(ask, now)) {
-      tellKept(request, entry, STALE_IF);
+    if (entry != null && entry.hasWanted(ask) && entry.helpsOut(ask, now)) {
+      store.use(entry);
+      tell(request, ask.statusFor(entry.tag, entry.last, entry.total), STALE_IF, entry, null);
     } else {
       tell(request, fetch.ended, FAULTY, null, null);
     }
@@ -1059,9 +1065,10 @@ public final class Cachefront {
       return;
     }
     Ask ask = request.ask;
-    boolean isByFront = !ask.isConditional() && fetch.answer != null;
-    int status = isByFront ? ask.statusBy(fetch.answer) : fetch.status;
-    tell(request, status, PASSED, fetch.answer, fetch.origin);
+    Entry answer = fetch.answer;
+    boolean isByFront = !ask.isConditional() && answer != null;
+    int status = isByFront ? ask.statusFor(answer.tag, answer.last, answer.total) : fetch.status;
+    tell(request, status, PASSED, answer, fetch.origin);
     if (!ask.isReading() && isIn(fetch.status, 200, 299)) {
       store.forgetPath(ask.path);
     }
@@ -1077,27 +1084,15 @@ public final class Cachefront {
     if (isIn(how, 0, HOWS - 1)) {
       toldBy[how]++;
     }
-    if (from != null) {
-      tellFrom(request, from);
+    if (from == null) {
+      return;
     }
-  }
-
-  private void tellFrom(Request request, Entry from) {
     request.age = from.age(now);
     request.freshness = from.freshness();
-    request.date = from.date;
-    request.last = from.last;
-    request.tag = from.tag;
-    request.total = from.total;
-    request.made = from.made;
-    if (request.status == PARTIAL) {
-      request.firstPlace = request.ask.rangeFirst(from.total);
-      request.lastPlace = request.ask.rangeLast(from.total);
-    }
+    request.putDetails(from);
     if (request.hasBody()) {
-      boolean isPart = request.status == PARTIAL;
       text.setLength(0);
-      from.writeTo(text, isPart ? request.firstPlace : 0, isPart ? request.lastPlace : from.total - 1);
+      from.writeTo(text, request.firstSign(), request.lastSign());
       request.told = text.toString();
       signsTold += request.told.length();
     }
@@ -1125,15 +1120,6 @@ public final class Cachefront {
       many += one(!fetches.get(i).isOver());
     }
     return many;
-  }
-
-  private boolean areAllTrue() {
-    for (int i = 0; i < requests.size(); i++) {
-      if (!isTrue(i)) {
-        return false;
-      }
-    }
-    return true;
   }
 
   private boolean areFetchesSound() {
@@ -1379,10 +1365,9 @@ public final class Cachefront {
 
     /** Whether its BODY for that REQUEST has what that was TOLD. */
     boolean shows(Request request) {
-      boolean isPart = request.status == PARTIAL;
-      int first = isPart ? request.firstPlace : 0;
+      int first = request.firstSign();
       int many = request.told.length();
-      if (isPart ? length != request.total : length != many) {
+      if (length != (request.status == PARTIAL ? request.total : many)) {
         return false;
       }
       int variant = variant(request.ask.lang, request.ask.coding);
@@ -1598,11 +1583,15 @@ public final class Cachefront {
     }
 
     int rangeFirst(int total) {
-      return first != NONE ? first : Math.max(0, total - last);
+      if (first != NONE) {
+        return first;
+      }
+      return last < total ? total - last : 0;
     }
 
     int rangeLast(int total) {
-      return first == NONE || last == NONE ? total - 1 : Math.min(last, total - 1);
+      boolean isToEnd = first == NONE || last == NONE || last >= total;
+      return isToEnd ? total - 1 : last;
     }
 
     boolean isRefusedBy(int tag, int date) {
@@ -1626,10 +1615,6 @@ public final class Cachefront {
         return rangeFirst(total) >= total ? NO_SUCH_RANGE : PARTIAL;
       }
       return OK;
-    }
-
-    int statusBy(Entry entry) {
-      return statusFor(entry.tag, entry.last, entry.total);
     }
 
     void writeTo(StringBuilder to) {
@@ -1711,6 +1696,26 @@ public final class Cachefront {
 
     boolean isDone() {
       return status != 0;
+    }
+
+    void putDetails(Entry from) {
+      date = from.date;
+      last = from.last;
+      tag = from.tag;
+      total = from.total;
+      made = from.made;
+      if (status == PARTIAL) {
+        firstPlace = ask.rangeFirst(total);
+        lastPlace = ask.rangeLast(total);
+      }
+    }
+
+    int firstSign() {
+      return status == PARTIAL ? firstPlace : 0;
+    }
+
+    int lastSign() {
+      return status == PARTIAL ? lastPlace : total - 1;
     }
 
     boolean hasBody() {
@@ -1975,7 +1980,7 @@ public final class Cachefront {
     }
 
     int cost() {
-      return 10 + held;
+      return ENTRY_COST + held;
     }
 
     boolean mayBeKept() {
@@ -2030,11 +2035,11 @@ public final class Cachefront {
       return plain;
     }
 
-    /** HOW it may be TOLD at once; NONE if it may not. */
+    /** HOW it may be TOLD at once if it has what is WANTED; NONE if it may not. */
     int readyFor(Ask ask, int now) {
       int age = age(now);
       boolean isTooOld = ask.wantsAge != NONE && age > ask.wantsAge;
-      if (isTooOld || ask.hasWish(WISH_NO_CACHE) || policy.has(FLAG_NO_CACHE) || !hasWanted(ask)) {
+      if (isTooOld || ask.hasWish(WISH_NO_CACHE) || policy.has(FLAG_NO_CACHE)) {
         return NONE;
       }
       int staleBy = age - freshness();
@@ -2050,11 +2055,11 @@ public final class Cachefront {
       return staleBy < policy.staleWhile ? STALE_WHILE : NONE;
     }
 
-    /** Whether it may be TOLD where a FAULT would be; one that is FRESH is stale by less than 0. */
+    /** Whether it may be TOLD instead of a FAULT; one that is FRESH is stale by less than 0. */
     boolean helpsOut(Ask ask, int now) {
       boolean isBarred = isStrict() || policy.has(FLAG_NO_CACHE) || ask.hasWish(WISH_NO_CACHE);
       boolean isFussy = ask.wantsAge != NONE || ask.wantsFresh != NONE;
-      return !isBarred && !isFussy && age(now) - freshness() < policy.staleIf && hasWanted(ask);
+      return !isBarred && !isFussy && age(now) - freshness() < policy.staleIf;
     }
 
     /** Whether its SIGNS are those of which its strong TAG tells. */
@@ -2096,7 +2101,7 @@ public final class Cachefront {
 
     void writeTo(StringBuilder to, int first, int lastPlace) {
       for (int i = Math.max(first, 0); i <= lastPlace && i < LENGTH_MOST; i++) {
-        to.append(isHeld(i) ? signs[i] : '.');
+        to.append(signs[i] != 0 ? signs[i] : '.');
       }
     }
   }
@@ -2115,7 +2120,7 @@ public final class Cachefront {
     int cost() {
       int cost = 0;
       for (int i = 0; i < entries.size(); i++) {
-        cost += entries.get(i).cost();
+        cost += ENTRY_COST + entries.get(i).held;
       }
       return cost;
     }
@@ -2199,7 +2204,7 @@ public final class Cachefront {
       return gone;
     }
 
-    boolean isSound() {
+    boolean isOrderly() {
       for (int i = 0; i < entries.size(); i++) {
         Entry entry = entries.get(i);
         if (!entry.isAsTagged()) {
