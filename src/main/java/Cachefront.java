@@ -1913,11 +1913,10 @@ public final class Cachefront {
     }
 
     private void put(int place, char sign) {
-      if (isHeld(place) || place < 0 || place >= LENGTH_MOST || sign == 0) {
-        return;
+      if (place >= 0 && place < LENGTH_MOST && sign != 0 && signs[place] == 0) {
+        signs[place] = sign;
+        held++;
       }
-      signs[place] = sign;
-      held++;
     }
 
     private void putAll(Entry other) {
@@ -2170,8 +2169,9 @@ public final class Cachefront {
 
     /** Lets ENTRIES go until one of that COST has room; how many go. */
     int makeRoom(int needed) {
+      int there = entries.size();
       int gone = 0;
-      while (!entries.isEmpty() && cost() + needed > room) {
+      while (gone < there && cost() + needed > room) {
         entries.remove(0);
         gone++;
       }
