@@ -14,6 +14,7 @@ public final class AnswerTest {
     stales();
     freshness();
     faults();
+    edgesOfStaleIf();
     passes();
     waiters();
     tellings();
@@ -337,6 +338,55 @@ public final class AnswerTest {
     CHECK.same("given up once", x.settle(60), 12);
     CHECK.same("a PASS", x.answerText(8), "504 fault");
     CHECK.same("ENTRIES stay", x.entries(), 1);
+  }
+
+  /** Only one ORIGIN is left, 2. */
+  private static void leaveOne(Cachefront x) {
+    x.weigh(0, 0);
+    x.weigh(1, 0);
+  }
+
+  private static void edgesOfStaleIf() {
+    CHECK.part("6 STALE by less than STALE_IF");
+    for (int staleIf = 4; staleIf <= 6; staleIf++) {
+      Cachefront x = front(3, 3);
+      leaveOne(x);
+      x.stale(0, 0, staleIf);
+      x.get(0, 0, 0);
+      x.goBy(8);
+      x.weigh(2, 0);
+      x.get(0, 0, 0);
+      CHECK.same("STALE by 5", x.answerText(1), staleIf > 5 ? "200 stale if, age=8, tag=12000" : "503 fault");
+      CHECK.same("AGE", x.ofAnswer(1, 2), staleIf > 5 ? 8 : 0);
+    }
+    for (int sharedAge = -1; sharedAge <= 3; sharedAge += 4) {
+      Cachefront x = front(3, 3);
+      leaveOne(x);
+      x.policy(0, 3, sharedAge, -1, 0);
+      x.stale(0, 0, 60);
+      x.get(0, 0, 0);
+      x.goBy(8);
+      x.weigh(2, 0);
+      x.get(0, 0, 0);
+      CHECK.same("STRICT", x.answerText(1), sharedAge < 0 ? "200 stale if, age=8, tag=12000" : "503 fault");
+    }
+    freshByThen();
+  }
+
+  /** An answer of another LANG came in between. */
+  private static void freshByThen() {
+    Cachefront x = front(3, 20);
+    leaveOne(x);
+    x.get(0, 0, 0);
+    x.goBy(22);
+    x.delay(2, 5);
+    x.get(0, 0, 0);
+    x.delay(2, 1);
+    x.warm(0, 1, 0);
+    x.goBy(3);
+    x.mood(2, 1);
+    x.settle(60);
+    CHECK.same("FRESH", x.answerText(1), "200 stale if, age=10, tag=12000");
   }
 
   private static String pass(Cachefront x, int method, int ifNone, int ifSince, int[] range) {

@@ -44,18 +44,29 @@ final class Check {
   void throwsOwn(Cachefront front, String what, Call call, Class<?> due) {
     done++;
     long before = front.digest();
-    Class<?> got = null;
+    RuntimeException thrown = null;
     try {
       call.go();
     } catch (RuntimeException e) {
-      got = e.getClass();
+      thrown = e;
     }
+    Class<?> got = thrown == null ? null : thrown.getClass();
     if (got != due) {
       tell(what + " threw " + got + ", due is " + due);
+    }
+    if (thrown != null && !isOwn(thrown)) {
+      tell(what + " let the library or the machine throw");
     }
     if (front.digest() != before) {
       tell(what + " threw, and changed something");
     }
+  }
+
+  /** A throw statement of the program gives it a text; the machine's own texts tell numbers. */
+  private static boolean isOwn(RuntimeException e) {
+    StackTraceElement[] trace = e.getStackTrace();
+    boolean isFromProgram = trace.length > 0 && trace[0].getClassName().startsWith("Cachefront");
+    return isFromProgram && e.getMessage() != null && !e.getMessage().startsWith("Index");
   }
 
   private void tell(String line) {

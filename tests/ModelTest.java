@@ -25,6 +25,8 @@ public final class ModelTest {
   private final int wildness;
   /** Whether ORIGINS fail often. */
   private final boolean isRough;
+  /** Whether REQUESTS and POLICIES are mostly plain, and ORIGINS are well or ill together. */
+  private final boolean isPlain;
   private boolean isWrong = false;
   static final int[] HOWS = new int[9];
   static final Map<String, Integer> SEEN = new HashMap<>();
@@ -36,6 +38,7 @@ public final class ModelTest {
     codings = 1 + random.nextInt(2);
     wildness = random.nextInt(3) == 0 ? 12 : 200;
     isRough = random.nextInt(2) == 0;
+    isPlain = random.nextInt(3) == 0;
   }
 
   public static void main(String[] args) {
@@ -177,6 +180,11 @@ public final class ModelTest {
   }
 
   private void policy(int path) {
+    if (isPlain && random.nextInt(8) > 0) {
+      call("policy", path, in(0, 5), -1, -1, 0);
+      call("stale", path, random.nextInt(3) == 0 ? in(0, 6) : 0, in(0, 30));
+      return;
+    }
     int flags = random.nextInt(3) > 0 ? 0 : in(0, 15);
     call("policy", path, random.nextInt(3) == 0 ? -1 : in(0, random.nextBoolean() ? 8 : 40),
         random.nextInt(5) == 0 ? in(0, 30) : -1, random.nextInt(4) == 0 ? in(0, 30) : -1, flags);
@@ -199,9 +207,9 @@ public final class ModelTest {
   }
 
   private void drafting() {
-    int method = random.nextInt(3) > 0 ? 0 : in(0, random.nextBoolean() ? 1 : 4);
+    int method = random.nextInt(isPlain ? 20 : 3) > 0 ? 0 : in(0, random.nextBoolean() ? 1 : 4);
     call("draft", method, path(), lang(), coding(), in(0, 40));
-    if (random.nextInt(3) == 0) {
+    if (random.nextInt(isPlain ? 8 : 3) == 0) {
       int wishes = random.nextInt(2) == 0 ? 0 : in(0, 7);
       call("wish", age(), age(), age(), wishes);
     }
@@ -412,6 +420,13 @@ public final class ModelTest {
   }
 
   private void changeOrigin() {
+    if (isPlain && random.nextInt(3) > 0) {
+      int mood = model.origins.get(0).mood != 0 ? 0 : 1 + random.nextInt(2);
+      for (int o = 0; o < 5; o++) {
+        call("mood", o, mood);
+      }
+      return;
+    }
     if (isRough && random.nextInt(3) > 0) {
       manyOrigins();
       return;

@@ -8,6 +8,7 @@ public final class StoreTest {
     ofEntry();
     entryBody();
     selected();
+    keptLast();
     wouldBe();
     purge();
     flush();
@@ -152,6 +153,31 @@ public final class StoreTest {
     for (int[] w : wrong) {
       CHECK.wrongArgument(x, "selected", () -> x.selected(0, w[0], w[1]));
     }
+  }
+
+  /** Two that come in one TICK: neither USE nor number tells which is SELECTED, but which was kept last. */
+  private static void keptLast() {
+    CHECK.part("5 SELECTED of several");
+    Cachefront x = new Cachefront();
+    x.write(0, 5, 3, 1);
+    x.policy(0, 600, -1, -1, 0);
+    int first = x.order(0, true).charAt(0) - '0';
+    x.delay(first, 2);
+    x.warm(0, 0, 0);
+    x.goBy(2);
+    x.write(0, 5, 3, 2);
+    x.delay(first, 1);
+    x.warm(0, 1, 0);
+    x.goBy(2);
+    CHECK.same("both at once", x.ofEntry(0, 12), x.ofEntry(1, 12));
+    CHECK.same("the one kept last", x.ofEntry(x.selected(0, 0, 0), 1), 2);
+    x.get(0, 0, 1);
+    CHECK.same("USED last", x.ofEntry(1, 1), 1);
+    CHECK.same("hit", x.answerText(0), "200 hit, age=4, tag=12000");
+    CHECK.same("the one kept last", x.ofEntry(x.selected(0, 0, 0), 1), 2);
+    CHECK.same("of one alone", x.ofEntry(x.selected(0, 0, 1), 1), 1);
+    x.get(0, 0, 0);
+    CHECK.same("hit", x.answerText(1), "200 hit, age=2, tag=24000");
   }
 
   private static void wouldBe() {
@@ -403,8 +429,32 @@ public final class StoreTest {
     x.settle(9);
     part(x, 0, 0);
     CHECK.same("FRESH and WHOLE", x.answerText(6), "206 hit, age=2, tag=24000, range=0-0/12");
+    gapsOfAll();
     changedSince();
     tooOldToJoin();
+  }
+
+  /** A plain GET, or a HEAD, with all but some places HELD. */
+  private static void gapsOfAll() {
+    int[][] held = {{0, 7}, {1, 8}, {0, 0}, {8, 8}};
+    String[] asked = {"8-8", "0-0", "1-8", "0-7"};
+    for (int i = 0; i < held.length; i++) {
+      for (int method = 0; method <= 1; method++) {
+        Cachefront x = new Cachefront();
+        x.write(0, 9, 3, 0);
+        x.policy(0, 30, -1, -1, 0);
+        part(x, held[i][0], held[i][1]);
+        x.settle(9);
+        x.draft(method, 0, 0, 0, 0);
+        CHECK.same("not READY", x.wouldBe(), 1);
+        x.send();
+        CHECK.same("what is not HELD", x.fetchText(1), "GET /0, range=" + asked[i] + ", if-range=12000");
+        x.settle(9);
+        CHECK.same("all of it", x.answerText(1), "200 fetched, age=2, tag=12000");
+        CHECK.same("all of it", x.answerBody(1), method == 0 ? x.body(0, 0, 0) : "");
+        CHECK.same("all of it", x.entryBody(0), x.body(0, 0, 0));
+      }
+    }
   }
 
   /** IF_RANGE does not hold: all of it comes, and a part of that is TOLD. */

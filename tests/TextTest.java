@@ -65,6 +65,7 @@ public final class TextTest {
     }
     CHECK.same("58", x.type(-1, -1, -1, -1, -1), 58);
     CHECK.throwsOwn(x, "three more", () -> x.type(1, 1, 1, -1, -1), IllegalStateException.class);
+    CHECK.throwsOwn(x, "three more", () -> x.type(-1, -1, 1, 1, 1), IllegalStateException.class);
     CHECK.wrongArgument(x, "IllegalArgumentException goes ahead", () -> x.type(1, 1, 1, 34, 1));
     CHECK.same("two more", x.type(-1, 1, -1, -1, 1), 60);
     CHECK.throwsOwn(x, "one more", () -> x.type(1, -1, -1, -1, -1), IllegalStateException.class);
