@@ -429,9 +429,33 @@ public final class StoreTest {
     x.settle(9);
     part(x, 0, 0);
     CHECK.same("FRESH and WHOLE", x.answerText(6), "206 hit, age=2, tag=24000, range=0-0/12");
+    hitsOfParts();
     gapsOfAll();
     changedSince();
     tooOldToJoin();
+  }
+
+  /** What is WANTED is HELD, though not all is. */
+  private static void hitsOfParts() {
+    Cachefront x = new Cachefront();
+    x.write(0, 12, 3, 0);
+    x.policy(0, 30, -1, -1, 0);
+    part(x, 2, 7);
+    x.settle(9);
+    int[][] ranges = {{2, 7}, {3, 4}, {2, 2}, {7, 7}, {1, 2}, {7, 8}, {7, -1}, {12, -1}};
+    for (int i = 0; i < ranges.length; i++) {
+      x.draft(0, 0, 0, 0, 0);
+      x.range(ranges[i][0], ranges[i][1], -1);
+      CHECK.same("range " + ranges[i][0], x.wouldBe(), i < 4 || i == 7 ? 0 : 1);
+      x.range(ranges[i][0], ranges[i][1], 12000);
+      CHECK.same("with IF_RANGE all is WANTED", x.wouldBe(), 1);
+      x.draft(1, 0, 0, 0, 0);
+      x.range(ranges[i][0], ranges[i][1], -1);
+      CHECK.same("of HEAD all is WANTED", x.wouldBe(), 1);
+    }
+    part(x, 3, 4);
+    CHECK.same("a hit", x.answerText(1), "206 hit, age=2, tag=12000, range=3-4/12");
+    CHECK.same("a hit", x.answerBody(1), x.body(0, 0, 0).substring(3, 5));
   }
 
   /** A plain GET, or a HEAD, with all but some places HELD. */
