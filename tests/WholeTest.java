@@ -131,7 +131,7 @@ public final class WholeTest {
   }
 
   /** The checksum out of what the other calls answer. */
-  private static long digestOf(Cachefront x) {
+  static long digestOf(Cachefront x) {
     long d = 7656;
     for (int what = 0; what <= 21; what++) {
       d = d * 31 + x.house(what);
