@@ -34,7 +34,7 @@ public final class FaceTest {
 
   private static void ofClass(Class<?> of, Set<String> names) {
     for (Method m : of.getDeclaredMethods()) {
-      boolean isSame = !Modifier.isPublic(m.getModifiers()) && names.contains(m.getName());
+      boolean isSame = Modifier.isPrivate(m.getModifiers()) && names.contains(m.getName());
       CHECK.same(of.getName() + "." + m.getName() + " bears a public name", isSame, false);
     }
     int fields = 0;

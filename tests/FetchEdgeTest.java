@@ -219,6 +219,41 @@ public final class FetchEdgeTest {
     CHECK.same("WHOLE", x.ofFetch(0, 0), 0);
     CHECK.same("plain", x.fetchText(0), "GET /0, lang=2, coding=1");
     CHECK.same("for no REQUEST", x.ofFetch(0, 7), -1);
+    ofEachKey();
+  }
+
+  /** All of PATH, LANG and CODING, asked for with and without an ENTRY. */
+  private static void ofEachKey() {
+    for (int lang = 0; lang <= 2; lang++) {
+      for (int coding = 0; coding <= 1; coding++) {
+        Cachefront x = Talk.alone();
+        x.write(11, 5, 3, 3);
+        x.stale(11, 0, 60);
+        String of = (lang == 0 ? "" : ", lang=" + lang) + (coding == 0 ? "" : ", coding=" + coding);
+        int tag = 12000 + 2 * (lang + 3 * coding);
+        CHECK.same("WHOLE", x.warm(11, lang, coding), 0);
+        CHECK.same("plain", x.fetchText(0), "GET /11" + of);
+        CHECK.same("PATH", x.ofFetch(0, 1), 11);
+        CHECK.same("LANG", x.ofFetch(0, 2), lang);
+        CHECK.same("CODING", x.ofFetch(0, 3), coding);
+        x.goBy(2);
+        CHECK.same("VALIDATE", x.warm(11, lang, coding), 1);
+        CHECK.same("by the TAG of its ENTRY", x.fetchText(1), "GET /11" + of + ", if-none-match=" + tag);
+        x.goBy(2);
+        x.weigh(2, 0);
+        CHECK.same("a FAULT is told from its ENTRY", Talk.atOnce(x, "GET /11" + of),
+            "200 stale if, age=2, tag=" + tag + " " + x.body(11, lang, coding));
+        x.weigh(2, 2);
+        x.flush();
+        x.policy(11, 600, -1, -1, 0);
+        Talk.send(x, "GET /11" + of + ", range=0-1");
+        Talk.send(x, "GET /11" + of + ", range=3-4");
+        x.settle(9);
+        String body = x.body(11, lang, coding);
+        CHECK.same("parts are put together", x.entryBody(0), body.substring(0, 2) + "." + body.substring(3));
+        CHECK.same("one ENTRY", x.entries(), 1);
+      }
+    }
   }
 
   private static void numbered() {

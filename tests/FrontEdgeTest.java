@@ -242,6 +242,28 @@ public final class FrontEdgeTest {
     CHECK.same("it ends at once", x.ofFetch(5, 10), 503);
     CHECK.same("not under way", x.underWay(), "");
     besidesPart();
+    ofEachLang();
+  }
+
+  /** One in the background for each LANG and CODING, in whatever order they come. */
+  private static void ofEachLang() {
+    int[][] all = {{1, 1}, {1, 0}, {0, 1}, {2, 1}, {0, 0}, {2, 0}};
+    Cachefront x = Talk.ready();
+    x.policy(0, 0, -1, -1, 0);
+    x.stale(0, 60, 0);
+    x.get(0, 0, 0);
+    x.goBy(2);
+    for (int i = 0; i < all.length; i++) {
+      int id = x.get(0, all[i][0], all[i][1]);
+      CHECK.same("stale while", x.ofAnswer(id, 1), 4);
+      CHECK.same("a FETCH of its own", x.house(3), 2 + i);
+      CHECK.same("LANG", x.ofFetch(1 + i, 2), all[i][0]);
+      CHECK.same("CODING", x.ofFetch(1 + i, 3), all[i][1]);
+    }
+    for (int[] one : all) {
+      x.get(0, one[0], one[1]);
+    }
+    CHECK.same("one of each is enough", x.house(3), 7);
   }
 
   /** A PART is under way: that is not JOINABLE. */

@@ -94,7 +94,12 @@ public final class ModelTest {
     }
   }
 
+  /** An object is used for at most 512 calls, of which digest() is the last one. */
   private Object call(String name, Object... args) {
+    return calls.size() < 511 ? compared(name, args) : "enough";
+  }
+
+  private Object compared(String name, Object... args) {
     StringBuilder b = new StringBuilder(name).append('/');
     for (Object a : args) {
       b.append(a instanceof Boolean ? 'b' : 'i');
@@ -120,7 +125,7 @@ public final class ModelTest {
         step();
       }
     }
-    call("digest");
+    compared("digest");
     for (int how = 0; how < 9; how++) {
       HOWS[how] += model.house(9 + how);
     }

@@ -12,6 +12,7 @@ public final class StoreEdgeTest {
     freshOrStale();
     costs();
     room();
+    roomAtFirst();
     aboveRoom();
     sameKey();
     used();
@@ -239,6 +240,27 @@ public final class StoreEdgeTest {
       CHECK.same("ROOM " + rooms[i], paths(x), due[i]);
       CHECK.same("went for want of ROOM", x.house(8), 4 - due[i].length());
       CHECK.same("COST of all", x.house(6), 15 * due[i].length());
+    }
+  }
+
+  private static void roomAtFirst() {
+    CHECK.part("5 ROOM (0 to 600; 300 at first)");
+    for (int room : new int[] {300, 600}) {
+      Cachefront x = Talk.alone();
+      CHECK.same("at first", x.house(7), 300);
+      if (room == 600) {
+        CHECK.same("none goes", x.room(600), 0);
+      }
+      for (int path = 0; path < 12; path++) {
+        x.write(path, 40, 3, 0);
+        x.policy(path, 600, -1, -1, 0);
+        x.get(path, 0, 0);
+        x.settle(9);
+        CHECK.same("each has the COST 50", x.entries(), Math.min(room / 50, path + 1));
+        CHECK.same("COST of all", x.house(6), Math.min(room, 50 * (path + 1)));
+        CHECK.same("went for want of ROOM", x.house(8), Math.max(0, path + 1 - room / 50));
+      }
+      CHECK.same("the ones USED last are left", paths(x), room == 300 ? "67891011" : "01234567891011");
     }
   }
 

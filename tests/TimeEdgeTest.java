@@ -1,3 +1,6 @@
+import java.util.HashSet;
+import java.util.Set;
+
 /** The boundary cases of sections 1 and 7, sentence by sentence: ORIGINS, the ring, TICKS. */
 public final class TimeEdgeTest {
   private static final Check CHECK = new Check();
@@ -14,6 +17,7 @@ public final class TimeEdgeTest {
     aroundTheRing();
     placesByWeight();
     nobodyOnTheRing();
+    noPlaceTwice();
     hashes();
     clocks();
     delays();
@@ -242,6 +246,21 @@ public final class TimeEdgeTest {
     x.weigh(3, 1);
     CHECK.same("first of all PATHS", x.ofOrigin(3, 7), 12);
     CHECK.same("alone", x.order(7, false), "3");
+  }
+
+  /** So that neither "that place, too" nor "the smaller number first" ever decides an ORDER. */
+  private static void noPlaceTwice() {
+    CHECK.part("1 places on the ring, and KEYS");
+    Set<Integer> places = new HashSet<>();
+    Cachefront x = new Cachefront();
+    for (int o = 0; o < 5; o++) {
+      for (int k = 0; k < 16; k++) {
+        CHECK.same("a place of its own", places.add(x.hash(100 * o + k)), true);
+      }
+    }
+    for (int path = 0; path < 12; path++) {
+      CHECK.same("no KEY is a place", places.add(x.hash(5000 + 37 * path)), true);
+    }
   }
 
   private static void hashes() {

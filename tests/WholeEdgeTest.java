@@ -40,19 +40,23 @@ public final class WholeEdgeTest {
     CHECK.same("small ones are TOLD", x.answerBody(2), old);
     CHECK.same("a to z", old.substring(7, 19), "ahovcjqxelsz");
     allAreTrue(x);
-    Cachefront y = Talk.alone();
-    y.write(0, 40, 2, 0);
-    for (int i = 0; i < 40; i++) {
+    for (int lang = 0; lang <= 2; lang++) {
+      Cachefront y = Talk.alone();
+      y.write(0, 40, 2, 1);
+      for (int i = 0; i < 40; i++) {
+        y.touch(0);
+      }
+      y.get(0, lang, 1);
+      y.settle(9);
       y.touch(0);
+      y.goBy(20);
+      y.get(0, lang, 0);
+      y.settle(9);
+      CHECK.same("validated", y.answerText(1), "200 validated, age=2, tag=" + (12001 + 2 * lang));
+      CHECK.same("capitals are TOLD", y.answerBody(1), y.body(0, lang, 0).toUpperCase());
+      CHECK.same("small ones are there", y.body(0, lang, 0), y.answerBody(1).toLowerCase());
+      allAreTrue(y);
     }
-    Talk.told(y, "GET /0");
-    y.touch(0);
-    y.goBy(20);
-    Talk.told(y, "GET /0");
-    CHECK.same("validated", y.answerText(1), "200 validated, age=2, tag=12001");
-    CHECK.same("capitals are TOLD", y.answerBody(1), old.toUpperCase());
-    CHECK.same("small ones are there", y.body(0, 0, 0), old);
-    allAreTrue(y);
   }
 
   private static void changedAtThatTick() {
@@ -201,14 +205,20 @@ public final class WholeEdgeTest {
       d = d * 31 + v;
     }
     CHECK.same("digest", x.digest(), d);
-    Cachefront y = new Cachefront();
-    y.mood(2, 1);
-    for (int i = 0; i < 3; i++) {
-      y.get(0, 0, 0);
-      y.settle(9);
-    }
+    Cachefront y = out();
     CHECK.same("ORDER", y.order(0, false), "1 0 2");
     CHECK.same("RING ORDER", y.order(0, true), "2 1 0");
-    CHECK.same("digest", y.digest(), WholeTest.digestOf(y));
+    CHECK.same("digest", y.digest(), WholeTest.digestOf(() -> out()));
+  }
+
+  /** ORIGIN 2 is OUT. */
+  private static Cachefront out() {
+    Cachefront x = new Cachefront();
+    x.mood(2, 1);
+    for (int i = 0; i < 3; i++) {
+      x.get(0, 0, 0);
+      x.settle(9);
+    }
+    return x;
   }
 }

@@ -130,60 +130,100 @@ public final class WholeTest {
     return mixed;
   }
 
+  /** Makes one front after the other, all alike, as one object answers at most 512 calls as promised. */
+  interface Maker {
+    Cachefront make();
+  }
+
+  /** Lends a front for one call that changes nothing. */
+  private static final class Lender {
+    private final Maker maker;
+    private Cachefront front;
+    private int calls = 0;
+
+    Lender(Maker maker) {
+      this.maker = maker;
+      this.front = maker.make();
+    }
+
+    Cachefront one() {
+      calls++;
+      if (calls % 250 == 0) {
+        front = maker.make();
+      }
+      return front;
+    }
+  }
+
   /** The checksum out of what the other calls answer. */
-  static long digestOf(Cachefront x) {
+  static long digestOf(Maker maker) {
+    Lender x = new Lender(maker);
     long d = 7656;
     for (int what = 0; what <= 21; what++) {
-      d = d * 31 + x.house(what);
+      d = d * 31 + x.one().house(what);
     }
     for (int o = 0; o < 5; o++) {
       for (int what = 0; what <= 8; what++) {
-        d = d * 31 + x.ofOrigin(o, what);
+        d = d * 31 + x.one().ofOrigin(o, what);
       }
     }
     for (int path = 0; path < 12; path++) {
       for (int what = 0; what <= 11; what++) {
-        d = d * 31 + x.ofPath(path, what);
+        d = d * 31 + x.one().ofPath(path, what);
       }
-      d = mixed(mixed(d, x.order(path, false)), x.order(path, true));
+      d = mixed(mixed(d, x.one().order(path, false)), x.one().order(path, true));
     }
-    d = mixed(mixed(d, x.draftText()), x.typed());
-    d = (d * 31 + x.fault(false, true)) * 31 + x.fault(false, false);
-    d = (d * 31 + x.fault(true, true)) * 31 + x.fault(true, false);
-    for (int id = 0; id < x.house(1); id++) {
+    d = mixed(mixed(d, x.one().draftText()), x.one().typed());
+    d = (d * 31 + x.one().fault(false, true)) * 31 + x.one().fault(false, false);
+    d = (d * 31 + x.one().fault(true, true)) * 31 + x.one().fault(true, false);
+    int requests = x.one().house(1);
+    for (int id = 0; id < requests; id++) {
       for (int what = 0; what <= 13; what++) {
-        d = d * 31 + x.ofAnswer(id, what);
+        d = d * 31 + x.one().ofAnswer(id, what);
       }
-      d = mixed(d, x.answerBody(id));
+      d = mixed(d, x.one().answerBody(id));
     }
-    for (int k = 0; k < x.entries(); k++) {
+    int entries = x.one().entries();
+    for (int k = 0; k < entries; k++) {
       for (int what = 0; what <= 15; what++) {
-        d = d * 31 + x.ofEntry(k, what);
+        d = d * 31 + x.one().ofEntry(k, what);
       }
-      d = mixed(d, x.entryBody(k));
+      d = mixed(d, x.one().entryBody(k));
     }
-    for (int fetch = 0; fetch < x.house(3); fetch++) {
+    int fetches = x.one().house(3);
+    for (int fetch = 0; fetch < fetches; fetch++) {
       for (int what = 0; what <= 10; what++) {
-        d = d * 31 + x.ofFetch(fetch, what);
+        d = d * 31 + x.one().ofFetch(fetch, what);
       }
     }
-    return d * 31 + (x.isSound() ? 1 : 0);
+    return d * 31 + (x.one().isSound() ? 1 : 0);
+  }
+
+  private static Cachefront typing() {
+    Cachefront x = busy();
+    x.type(0, 5, 1012, -1, -1);
+    return x;
+  }
+
+  private static Cachefront later() {
+    Cachefront x = typing();
+    x.settle(120);
+    x.cut(60);
+    return x;
   }
 
   private static void digest() {
     CHECK.part("59 digest");
-    Cachefront x = new Cachefront();
-    CHECK.same("of a new one", x.digest(), digestOf(x));
-    Cachefront y = busy();
-    y.type(0, 5, 1012, -1, -1);
-    CHECK.same("of a busy one", y.digest(), digestOf(y));
-    CHECK.same("again", y.digest(), digestOf(y));
-    y.settle(120);
-    y.cut(60);
-    CHECK.same("later", y.digest(), digestOf(y));
-    long before = y.digest();
+    CHECK.same("of a new one", new Cachefront().digest(), digestOf(() -> new Cachefront()));
+    Cachefront x = typing();
+    long due = digestOf(() -> typing());
+    CHECK.same("of a busy one", x.digest(), due);
+    CHECK.same("again", x.digest(), due);
+    Cachefront y = later();
+    due = digestOf(() -> later());
+    CHECK.same("later", y.digest(), due);
     y.knock();
-    CHECK.same("another one", y.digest() == before, false);
+    CHECK.same("another one", y.digest() == due, false);
   }
 
   private static void apart() {
