@@ -626,6 +626,33 @@ public final class FetchEdgeTest {
     CHECK.same("stale while", y.answerText(2), "200 stale while, age=2, tag=12000");
     CHECK.same("one in the background", y.underWay(), "1");
     CHECK.same("SENT in that TICK", y.ofFetch(1, 6), 2);
+    waitersInTheBackground();
+  }
+
+  /** All that WAIT are looked at again, the first REQUEST ever, too; nobody else is TOLD. */
+  private static void waitersInTheBackground() {
+    Cachefront x = Talk.ready();
+    x.warm(0, 0, 0);
+    Talk.send(x, "GET /0");
+    Talk.send(x, "HEAD /0");
+    Talk.send(x, "GET /0, range=0-0");
+    CHECK.same("all WAIT", x.ofFetch(0, 8), 3);
+    x.goBy(2);
+    CHECK.same("the first one", Talk.answer(x, 0), "200 hit, age=2, tag=12000 " + x.body(0, 0, 0));
+    CHECK.same("the second one", x.answerText(1), "200 hit, age=2, tag=12000");
+    CHECK.same("the last one", x.answerText(2), "206 hit, age=2, tag=12000, range=0-0/8");
+    CHECK.same("one FETCH", x.house(3), 1);
+    Cachefront y = Talk.ready();
+    y.mood(2, 2);
+    y.warm(0, 0, 0);
+    for (int i = 0; i < 60; i++) {
+      Talk.send(y, i % 2 == 0 ? "GET /0" : "HEAD /0, no-cache");
+    }
+    CHECK.same("60 WAIT", y.ofFetch(0, 8), 60);
+    CHECK.same("given up", y.settle(120), 12);
+    for (int id = 0; id < 60; id++) {
+      CHECK.same("REQUEST " + id, y.answerText(id), "504 fault");
+    }
   }
 
   private static void faultOfWaiters() {

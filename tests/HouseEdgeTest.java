@@ -158,6 +158,13 @@ public final class HouseEdgeTest {
     for (int path = 0; path < 12; path++) {
       CHECK.same("of others", x.policyText(path), path == 3 ? text : "");
     }
+    x.policy(3, 0, -1, -1, 0);
+    CHECK.same("but for STALE_WHILE and STALE_IF", x.policyText(3), "max-age=0, stale-while=6, stale-if=7");
+    x.stale(3, 0, 60);
+    CHECK.same("but for the others", x.policyText(3), "max-age=0, stale-if=60");
+    x.policy(3, -1, 600, 0, 10);
+    CHECK.same("but for STALE_WHILE and STALE_IF", x.policyText(3), "s-maxage=600, expires=0, no-cache, must-revalidate, "
+        + "stale-if=60");
     int[] flags = {1, 2, 4, 8};
     String[] names = {"no-store", "no-cache", "private", "must-revalidate"};
     for (int i = 0; i < 4; i++) {

@@ -15,6 +15,8 @@ public final class TextEdgeTest {
     rangesOfRows();
     boundsOfItems();
     wrongItems();
+    withoutEquals();
+    goneTokens();
     drafts();
     tagsOfDrafts();
     ticksOfDrafts();
@@ -285,6 +287,58 @@ public final class TextEdgeTest {
         request("get / 0 , " + word + " = " + odd, 1, 6);
       }
     }
+  }
+
+  private static void withoutEquals() {
+    CHECK.part("8 the first TOKEN that can not stand there: = is due");
+    String[] fields = {"lang", "coding", "size", "max-age", "max-stale", "min-fresh", "if-match", "if-none-match",
+        "if-modified-since", "if-unmodified-since", "range", "if-range"};
+    for (String field : fields) {
+      for (String odd : new String[] {"*", "tag", "last", "now", "-", ",", "/", "get", "5", "lang", "no-cache"}) {
+        request("get / 1 , " + field + " " + odd, 1, 5);
+        request("get / 1 , " + field + " " + odd + " 5", 1, 5);
+        request("get / 1 , " + field + " " + odd + " 5 -", 1, 5);
+        request("get / 1 , " + field + " " + odd + " now", 1, 5);
+      }
+    }
+    for (String item : new String[] {"max-age", "s-maxage", "expires", "stale-while", "stale-if"}) {
+      item(item + " - 5", 1, 1);
+      item(item + " 5 5", 1, 1);
+    }
+    request("get - 1", 1, 1);
+    request("get 5 1", 1, 1);
+    request("get / * , lang = 1", 1, 2);
+  }
+
+  private static void goneTokens() {
+    CHECK.part("50 the last TOKENS of the ROW go");
+    Cachefront x = new Cachefront();
+    Talk.type(x, "get / 1 , range = 5 - 4");
+    CHECK.same("a FAULT", x.fault(false, true), 8);
+    x.cut(1);
+    CHECK.same("gone with its TOKEN", x.fault(false, false), 0);
+    CHECK.same("its number", x.toDraft(), 0);
+    CHECK.same("to the end", x.draftText(), "GET /1, range=5-");
+    Talk.type(x, "get / 1 , if-modified-since = now - 7");
+    x.goBy(3);
+    x.cut(2);
+    CHECK.same("its number", x.toDraft(), 0);
+    CHECK.same("now", x.draftText(), "GET /1, if-modified-since=3");
+    Talk.type(x, "get / 12 , lang = 5 , lang = 5");
+    x.cut(9);
+    CHECK.same("cut in the middle", x.fault(false, true), 2);
+    x.type(1001, -1, -1, -1, -1);
+    CHECK.same("typed again", x.typed(), "get / 1");
+    CHECK.same("no FAULT", x.fault(false, false), 0);
+    Talk.type(x, "max-age = 601 , max-age = 601");
+    x.cut(6);
+    CHECK.same("as a POLICY", x.fault(true, true), 1);
+    x.type(7, 1600, -1, -1, -1);
+    CHECK.same("one ITEM", x.toPolicy(2), 1);
+    CHECK.same("that one", x.policyText(2), "max-age=600");
+    x.cut(60);
+    CHECK.same("none", x.toPolicy(2), 0);
+    CHECK.same("nothing is left of it", x.policyText(2), "");
   }
 
   private static void becomes(Cachefront x, String row, String due) {

@@ -138,6 +138,11 @@ public final class WholeEdgeTest {
       }
       CHECK.same("isSound", x.isSound(), true);
     }
+    Cachefront x = out();
+    CHECK.same("one is OUT", x.ofOrigin(2, 5), 1);
+    CHECK.same("RING ORDER is what counts", x.isSound(), true);
+    CHECK.same("as it is", x.ifWeighed(2, 2, 0), 2);
+    CHECK.same("the first one of PATHS", x.ofOrigin(2, 7), new Cachefront().ofOrigin(2, 7));
   }
 
   private static void counters() {
