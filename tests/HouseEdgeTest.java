@@ -11,6 +11,7 @@ public final class HouseEdgeTest {
     tags();
     dates();
     policyStays();
+    theOneBefore();
     atThatMoment();
     doesNothing();
     withoutDocument();
@@ -170,6 +171,38 @@ public final class HouseEdgeTest {
     for (int i = 0; i < 4; i++) {
       x.policy(4, -1, -1, -1, flags[i]);
       CHECK.same("each of FLAGS", x.policyText(4), names[i]);
+    }
+  }
+
+  private static void theOneBefore() {
+    CHECK.part("4 to 7, 15, 16 the one before");
+    for (int i = 0; i < 5; i++) {
+      Cachefront x = new Cachefront();
+      int first = i < 3 ? 2 : 0;
+      CHECK.same("WEIGHT", x.weigh(i, 4), first);
+      CHECK.same("WEIGHT", x.weigh(i, 1), 4);
+      CHECK.same("WEIGHT", x.weigh(i, 1), 1);
+      CHECK.same("OFFSET", x.offset(i, -50), 0);
+      CHECK.same("OFFSET", x.offset(i, 7), -50);
+      CHECK.same("OFFSET", x.offset(i, 50), 7);
+      CHECK.same("DELAY", x.delay(i, 5), 1);
+      CHECK.same("DELAY", x.delay(i, 3), 5);
+      CHECK.same("DELAY", x.delay(i, 2), 3);
+      CHECK.same("MOOD", x.mood(i, 2), 0);
+      CHECK.same("MOOD", x.mood(i, 1), 2);
+      CHECK.same("MOOD", x.mood(i, 0), 1);
+      int[] due = {1, 50, 2, 0};
+      for (int what = 0; what < due.length; what++) {
+        CHECK.same("ofOrigin(" + i + ", " + what + ")", x.ofOrigin(i, what), due[what]);
+      }
+      CHECK.same("FLAGS", x.policy(i, 1, 2, 3, 15), 0);
+      CHECK.same("FLAGS", x.policy(i, 4, 5, 6, 8), 15);
+      CHECK.same("FLAGS", x.policy(i, 7, 9, 10, 11), 8);
+      CHECK.same("STALE_WHILE", x.stale(i, 5, 6), 0);
+      CHECK.same("STALE_WHILE", x.stale(i, 7, 8), 5);
+      CHECK.same("STALE_WHILE", x.stale(i, 60, 59), 7);
+      CHECK.same("all of it", x.policyText(i), "max-age=7, s-maxage=9, expires=10, no-store, no-cache, must-revalidate, "
+          + "stale-while=60, stale-if=59");
     }
   }
 

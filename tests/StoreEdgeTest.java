@@ -21,6 +21,8 @@ public final class StoreEdgeTest {
     keepable();
     joined();
     joinedToOthers();
+    joinedToBoth();
+    heldByRange();
     partsOfAll();
     CHECK.end();
   }
@@ -492,6 +494,84 @@ public final class StoreEdgeTest {
     Talk.told(y, "GET /0, range=0-1");
     Talk.told(y, "GET /0, lang=1, range=2-3");
     CHECK.same("another LANG is another ENTRY", y.entries(), 2);
+  }
+
+  private static void joinedToBoth() {
+    CHECK.part("6 JOINED to E, as it was when the FETCH began; then to the ENTRY that is SELECTED now");
+    Cachefront x = Talk.ready();
+    Talk.told(x, "GET /0, range=0-1");
+    x.delay(2, 2);
+    Talk.send(x, "GET /0, range=1-3");
+    CHECK.same("what E has not", Talk.lastFetch(x), "GET /0, range=2-3, if-range=12000");
+    x.flush();
+    x.delay(2, 1);
+    Talk.send(x, "GET /0, range=6-7");
+    x.goBy(2);
+    CHECK.same("another one by then", x.entryBody(0), "......ta");
+    x.goBy(2);
+    CHECK.same("all three together", x.entryBody(0), "dkry..ta");
+    CHECK.same("HELD", x.ofEntry(0, 10), 6);
+    CHECK.same("TOLD", x.answerBody(1), "kry");
+    CHECK.same("SENT of the new one", x.ofEntry(0, 11), 2);
+    CHECK.same("GOT of the new one", x.ofEntry(0, 12), 6);
+    Cachefront y = Talk.ready();
+    Talk.told(y, "GET /0, range=0-1");
+    y.delay(2, 2);
+    Talk.send(y, "GET /0, range=1-3");
+    y.goBy(2);
+    y.write(0, 8, 3, 0);
+    y.delay(2, 1);
+    y.warm(0, 0, 0);
+    y.goBy(2);
+    CHECK.same("both came at once: the greater number is KEPT last", y.ofEntry(0, 8), 24000);
+    CHECK.same("TOLD of the old one", Talk.answer(y, 1), "206 fetched, age=4, tag=12000, range=1-3/8 kry");
+  }
+
+  /** Of a 206 only the places of its RANGE are HELD. */
+  private static void heldByRange() {
+    CHECK.part("5 the places whose SIGNS it has (HELD)");
+    String[] ranges = {"0-0", "7-7", "7-900", "3-", "-1", "-3", "-8", "-900", "0-", "2-5"};
+    String[] due = {"d.......", ".......a", ".......a", "...yfmta", ".......a", ".....mta", "dkryfmta", "dkryfmta", "dkryfmta",
+        "..ryfm.."};
+    for (int lang = 0; lang <= 2; lang += 2) {
+      for (int i = 0; i < ranges.length; i++) {
+        Cachefront x = Talk.ready();
+        Talk.told(x, "GET /0" + (lang == 0 ? "" : ", lang=" + lang) + ", range=" + ranges[i]);
+        CHECK.same("206 of " + ranges[i], x.ofFetch(0, 10), 206);
+        CHECK.same("HELD of " + ranges[i], x.entryBody(0), due[i]);
+        int held = due[i].replace(".", "").length();
+        CHECK.same("how many", x.ofEntry(0, 10), held);
+        CHECK.same("COST", x.house(6), 10 + held);
+        CHECK.same("TOLD", x.answerBody(0), due[i].replace(".", ""));
+      }
+    }
+    longest();
+  }
+
+  /** A BODY of 40 SIGNS, of which one is missing. */
+  private static void longest() {
+    for (int missing : new int[] {0, 1, 20, 38, 39}) {
+      Cachefront x = Talk.ready();
+      x.write(0, 40, 3, 0);
+      if (missing > 0) {
+        Talk.send(x, "GET /0, range=0-" + (missing - 1));
+      }
+      if (missing < 39) {
+        Talk.send(x, "GET /0, range=" + (missing + 1) + "-39");
+      }
+      x.settle(9);
+      CHECK.same("39 of 40", x.ofEntry(0, 10), 39);
+      Talk.draft(x, "GET /0");
+      CHECK.same("not all", x.wouldBe(), 1);
+      Talk.draft(x, "GET /0, range=" + missing + "-" + missing);
+      CHECK.same("not that one", x.wouldBe(), 1);
+      Talk.draft(x, "GET /0, range=" + (missing == 39 ? "0-38" : (missing + 1) + "-39"));
+      CHECK.same("but those", x.wouldBe(), 0);
+      Talk.told(x, "GET /0");
+      CHECK.same("that one is asked for", Talk.lastFetch(x), "GET /0, range=" + missing + "-" + missing + ", if-range=24000");
+      CHECK.same("all", x.entryBody(0), x.body(0, 0, 0));
+      CHECK.same("COST", x.house(6), 50);
+    }
   }
 
   private static void partsOfAll() {

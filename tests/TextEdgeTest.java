@@ -19,6 +19,7 @@ public final class TextEdgeTest {
     goneTokens();
     drafts();
     tagsOfDrafts();
+    tagAndLast();
     ticksOfDrafts();
     policies();
     CHECK.end();
@@ -395,6 +396,26 @@ public final class TextEdgeTest {
     Cachefront x = new Cachefront();
     becomes(x, "get / 7 , if-match = last , if-none-match = last , if-range = last",
         "GET /7, if-match=0, if-none-match=0, if-range=0");
+  }
+
+  private static void tagAndLast() {
+    CHECK.part("8 \"tag\" and \"last\" in each FIELD");
+    Cachefront x = Talk.ready();
+    x.write(1, 3, 2, 0);
+    Talk.told(x, "GET /0");
+    String[] fields = {"if-match", "if-none-match", "if-range"};
+    for (String one : fields) {
+      becomes(x, "get / 1 , " + one + " = last", "GET /1, " + one + "=12000");
+      becomes(x, "get / 1 , " + one + " = tag", "GET /1, " + one + "=12001");
+      becomes(x, "get / 1 , " + one + " = 7", "GET /1, " + one + "=7");
+      becomes(x, "get / 2 , " + one + " = tag", "GET /2, " + one + "=0");
+    }
+    becomes(x, "get / 1 , if-match = last , if-none-match = tag , if-range = last",
+        "GET /1, if-match=12000, if-none-match=12001, if-range=12000");
+    becomes(x, "get / 1 , if-match = tag , if-none-match = last , if-range = tag",
+        "GET /1, if-match=12001, if-none-match=12000, if-range=12001");
+    becomes(x, "get / 1 , if-modified-since = 5 , if-unmodified-since = now", "GET /1, if-modified-since=5, if-unmodified-since=2");
+    becomes(x, "get / 1 , if-modified-since = now , if-unmodified-since = 5", "GET /1, if-modified-since=2, if-unmodified-since=5");
   }
 
   private static void ticksOfDrafts() {
