@@ -148,6 +148,11 @@ public final class FetchEdgeTest {
     gap(held("2-3"), "GET /0, range=3-5", "4-5");
     gap(held("2-3"), "GET /0, range=5-6", "5-6");
     gap(held("2-3"), "GET /0, range=-1", "7-7");
+    gap(held("2-3"), "GET /0, range=0-0", "0-0");
+    gap(held("2-3"), "GET /0, range=1-1", "1-1");
+    gap(held("2-3"), "GET /0, range=4-900", "4-7");
+    gap(held("0-3"), "GET /0, range=-900", "4-7");
+    gap(held("4-7"), "GET /0, range=0-", "0-3");
   }
 
   private static void begins(Cachefront x, String text, int kind, String asked) {
