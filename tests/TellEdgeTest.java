@@ -150,7 +150,7 @@ public final class TellEdgeTest {
         boolean isOpen = dash == 0 || dash == range.length() - 1;
         int last = isOpen ? length - 1 : Math.min(length - 1, Integer.parseInt(range.substring(dash + 1)));
         boolean isEmpty = length == 0 || first >= length;
-        for (int how = 0; how <= 6; how += how == 0 ? 1 : 5) {
+        for (int how : new int[] {0, 1, 6}) {
           Cachefront x = ready(how, 3);
           x.write(0, length, 3, 0);
           x.policy(0, 50, -1, -1, 0);
