@@ -27,23 +27,26 @@ public final class ModelTest {
   private final boolean isRough;
   /** Whether REQUESTS and POLICIES are mostly plain, and ORIGINS are well or ill together. */
   private final boolean isPlain;
+  /** Whether DOCUMENTS are mostly asked for in RANGES, stay FRESH, and change as that is under way. */
+  private final boolean isParted;
   private boolean isWrong = false;
   static final int[] HOWS = new int[9];
   static final Map<String, Integer> SEEN = new HashMap<>();
 
   private ModelTest(long seed) {
     random = new Random(seed);
-    paths = 1 + random.nextInt(random.nextInt(4) == 0 ? 12 : 3);
-    langs = 1 + random.nextInt(3);
-    codings = 1 + random.nextInt(2);
-    wildness = random.nextInt(3) == 0 ? 12 : 200;
     isRough = random.nextInt(2) == 0;
     isPlain = random.nextInt(3) == 0;
+    isParted = !isPlain && random.nextInt(3) == 0;
+    paths = 1 + random.nextInt(isParted ? 2 : random.nextInt(4) == 0 ? 12 : 3);
+    langs = 1 + random.nextInt(isParted ? 2 : 3);
+    codings = 1 + random.nextInt(isParted ? 1 : 2);
+    wildness = random.nextInt(3) == 0 ? 12 : 200;
   }
 
   public static void main(String[] args) {
     long first = args.length > 0 ? Long.parseLong(args[0]) : 1;
-    int runs = args.length > 1 ? Integer.parseInt(args[1]) : 250;
+    int runs = args.length > 1 ? Integer.parseInt(args[1]) : 400;
     int wrong = 0;
     for (long seed = first; seed < first + runs; seed++) {
       ModelTest test = new ModelTest(seed);
@@ -88,10 +91,17 @@ public final class ModelTest {
     try {
       return m.invoke(on, args);
     } catch (InvocationTargetException e) {
-      return "throws " + e.getCause().getClass().getSimpleName();
+      return "throws " + e.getCause().getClass().getSimpleName() + (isOwn(e.getCause()) ? "" : " of the machine");
     } catch (IllegalAccessException e) {
       return "no access";
     }
+  }
+
+  /** The library and the machine throw from classes of their own, or below the names that are due. */
+  private static boolean isOwn(Throwable thrown) {
+    StackTraceElement[] trace = thrown.getStackTrace();
+    String top = trace.length > 0 ? trace[0].getClassName() : "";
+    return top.startsWith("Cachefront") || top.startsWith("Model");
   }
 
   /** An object is used for at most 512 calls, of which digest() is the last one. */
@@ -135,7 +145,8 @@ public final class ModelTest {
       SEEN.merge(model.isTrue(i) ? "true" : "not true", 1, Integer::sum);
     }
     for (Model.Fetch f : model.fetches) {
-      SEEN.merge("fetch of kind " + f.kind + " ended by " + f.ended, 1, Integer::sum);
+      String kind = f.kind + (f.kind == 2 && f.ask.ifRange >= 0 ? " with IF_RANGE" : "");
+      SEEN.merge("fetch of kind " + kind + " ended by " + f.ended, 1, Integer::sum);
     }
     SEEN.merge(model.isSound() ? "sound" : "not sound", 1, Integer::sum);
     SEEN.merge("crowded out", model.crowded, Integer::sum);
@@ -145,7 +156,9 @@ public final class ModelTest {
   private void setUp() {
     for (int p = 0; p < paths; p++) {
       if (random.nextInt(5) > 0) {
-        call("write", p, random.nextInt(random.nextBoolean() ? 41 : 8), random.nextInt(4), random.nextInt(4));
+        int length = isParted ? 20 + random.nextInt(21) : random.nextInt(random.nextBoolean() ? 41 : 8);
+        int sort = isParted && random.nextInt(6) > 0 ? 3 : random.nextInt(4);
+        call("write", p, length, sort, random.nextInt(4));
         policy(p);
       }
     }
@@ -190,6 +203,11 @@ public final class ModelTest {
       call("stale", path, random.nextInt(3) == 0 ? in(0, 6) : 0, in(0, 30));
       return;
     }
+    if (isParted && random.nextInt(8) > 0) {
+      call("policy", path, in(5, 60), -1, -1, random.nextInt(10) == 0 ? in(0, 15) : 0);
+      call("stale", path, 0, random.nextBoolean() ? 0 : in(0, 60));
+      return;
+    }
     int flags = random.nextInt(3) > 0 ? 0 : in(0, 15);
     call("policy", path, random.nextInt(3) == 0 ? -1 : in(0, random.nextBoolean() ? 8 : 40),
         random.nextInt(5) == 0 ? in(0, 30) : -1, random.nextInt(4) == 0 ? in(0, 30) : -1, flags);
@@ -212,6 +230,13 @@ public final class ModelTest {
   }
 
   private void drafting() {
+    if (isParted && random.nextInt(5) > 0) {
+      call("draft", random.nextInt(12) == 0 ? 1 : 0, path(), lang(), coding(), 0);
+      if (random.nextInt(8) > 0) {
+        ranging();
+      }
+      return;
+    }
     int method = random.nextInt(isPlain ? 20 : 3) > 0 ? 0 : in(0, random.nextBoolean() ? 1 : 4);
     call("draft", method, path(), lang(), coding(), in(0, 40));
     if (random.nextInt(isPlain ? 8 : 3) == 0) {
@@ -231,7 +256,7 @@ public final class ModelTest {
 
   private void ranging() {
     int first = in(0, random.nextBoolean() ? 10 : 41);
-    int ifRange = random.nextInt(3) == 0 ? Math.max(-1, anyTag()) : -1;
+    int ifRange = random.nextInt(isParted ? 12 : 3) == 0 ? Math.max(-1, anyTag()) : -1;
     switch (random.nextInt(4)) {
       case 0: call("range", -1, in(1, 20), ifRange); break;
       case 1: call("range", first, -1, ifRange); break;
@@ -248,6 +273,19 @@ public final class ModelTest {
     Object id = call("send");
     if (id instanceof Integer && (Integer) id >= 0) {
       look((Integer) id);
+    }
+    if (isParted && random.nextInt(3) == 0) {
+      call("settle", in(1, 40));
+    } else if (isParted && random.nextInt(4) == 0) {
+      changeUnderWay();
+    }
+  }
+
+  private void getting() {
+    if (isParted && random.nextInt(8) > 0) {
+      sending();
+    } else {
+      call("get", path(), lang(), coding());
     }
   }
 
@@ -375,7 +413,7 @@ public final class ModelTest {
       case 1:
       case 2: sending(); break;
       case 3:
-      case 4: call("get", path(), lang(), coding()); break;
+      case 4: getting(); break;
       case 5:
       case 6:
       case 7: call("goBy", in(1, random.nextInt(4) == 0 ? 60 : 5)); break;
@@ -408,6 +446,16 @@ public final class ModelTest {
       case 4: call("touch", path); break;
       case 5: call("remove", path); break;
       default: policy(path); break;
+    }
+  }
+
+  /** So that an answer is not the one for which the front asked. */
+  private void changeUnderWay() {
+    switch (random.nextInt(5)) {
+      case 0: call("write", path(), in(0, 20), random.nextBoolean() ? 3 : in(0, 3), in(0, 3)); break;
+      case 1: policy(path()); break;
+      case 2: call("flush"); break;
+      default: call("touch", path()); break;
     }
   }
 
